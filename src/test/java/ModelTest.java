@@ -4,27 +4,60 @@ import java.util.Random;
 
 /** Long runs of mixed calls, each answer and all that can be seen after it held against the Model. */
 public final class ModelTest {
-    private static final int RUNS = 400;
+    private static final int RUNS = 560;
+    private static final int MOODS = 7;
+    private static final int AT_THE_TOP = 5;
+    private static final int AT_THE_BOTTOM = 6;
     private static final int CALLS = 512;
 
     private final Random random;
     private final int mood;
+    private final int crowded;
     private final RangeExchange x;
     private final Model m;
     private final StringBuilder log = new StringBuilder();
 
     private ModelTest(int seed) {
         random = new Random(seed);
-        mood = seed % 5;
+        mood = seed % MOODS;
+        crowded = seed / MOODS % 2;
         int first = pick(-1, 0, 1, 3, 30, 99, 100, 101, Integer.MAX_VALUE);
         int second = pick(Integer.MIN_VALUE, 0, 2, 10, 50, 100, 1000);
         x = new RangeExchange(first, second);
         m = new Model(first, second);
         log.append("new(").append(first).append(", ").append(second).append(")");
+        if (mood >= AT_THE_TOP) {
+            crowd();
+        }
+    }
+
+    /**
+     * Twelve positions of the most liquidity stand upon one another at an end of the ticks, and
+     * one owner has enough to move the price through them.
+     */
+    private void crowd() {
+        int[] none = new int[9];
+        for (int i = 0; i < 12; i++) {
+            int owner = i % 4;
+            int token = i / 4;
+            boolean moves = token == (mood == AT_THE_TOP ? crowded + 1 : crowded);
+            int amount = !moves ? 25000000 : owner == 0 ? 97000000 : 1000000;
+            both(none, 0, "give(" + owner + ", " + token + ", " + amount + ")",
+                    () -> x.give(owner, token, amount), () -> m.give(owner, token, amount));
+        }
+        for (int i = 0; i < 12; i++) {
+            int owner = i % 4;
+            int lo = mood == AT_THE_TOP ? 37 + i / 4 : -40;
+            int hi = mood == AT_THE_TOP ? 40 : -37 - i / 4;
+            both(none, 1, "mint(" + args(owner, crowded, lo, hi) + ", 50000000)",
+                    () -> x.mint(owner, crowded, lo, hi, 50000000),
+                    () -> m.mint(owner, crowded, lo, hi, 50000000));
+        }
     }
 
     public static void main(String[] args) {
         int crossings = 0;
+        long most = 0;
         int[] fair = new int[9];
         for (int seed = 0; seed < RUNS; seed++) {
             ModelTest run = new ModelTest(seed);
@@ -32,13 +65,16 @@ public final class ModelTest {
                 if (!run.call(fair)) {
                     break;
                 }
+                most = Math.max(most, Math.max(run.m.liquidity(0), run.m.liquidity(1)));
             }
             crossings += run.m.crossings;
         }
         System.out.println("ticks crossed: " + crossings + ", calls that did not throw: give " + fair[0]
                 + ", mint " + fair[1] + ", burn " + fair[2] + ", collect " + fair[3]
                 + ", swap " + fair[4] + ", route " + fair[5]);
+        System.out.println("most liquidity: " + most);
         Check.holds("the runs cross ticks", crossings > 10000);
+        Check.holds("the runs come near the most liquidity", most > 550000000);
         for (int kind = 0; kind < 6; kind++) {
             Check.holds("calls of kind " + kind + " were done", fair[kind] > 1000);
         }
@@ -62,12 +98,21 @@ public final class ModelTest {
     }
 
     private int pool() {
+        if (mood >= AT_THE_TOP && random.nextInt(20) != 0) {
+            return crowded;
+        }
         return random.nextInt(60) == 0 ? pick(-1, 2, Integer.MIN_VALUE, Integer.MAX_VALUE) : between(0, 1);
     }
 
     private int tick() {
         if (random.nextInt(80) == 0) {
             return pick(-41, 41, Integer.MIN_VALUE, Integer.MAX_VALUE);
+        }
+        if (mood == AT_THE_TOP && random.nextInt(10) != 0) {
+            return between(35, 40);
+        }
+        if (mood == AT_THE_BOTTOM && random.nextInt(10) != 0) {
+            return between(-40, -35);
         }
         switch (random.nextInt(4)) {
             case 0:
@@ -94,6 +139,9 @@ public final class ModelTest {
                 return between(1, 50000000);
             case 3:
                 return pick(1, 2, 50000000, 49999999, 100000000);
+            case AT_THE_TOP:
+            case AT_THE_BOTTOM:
+                return random.nextInt(4) == 0 ? 1 << between(0, 26) : between(45000000, 50000000);
             default:
                 return 1 << between(0, 26);
         }
@@ -134,7 +182,8 @@ public final class ModelTest {
             }
             case 2: {
                 int amount = (int) m.position(owner, pool, lo, hi, 0);
-                int l = pick(0, amount, amount / 2, amount + 1, size(), 1);
+                int l = mood >= AT_THE_TOP ? pick(0, 0, 0, 0, 0, 1, amount, amount / 100)
+                        : pick(0, amount, amount / 2, amount + 1, size(), 1);
                 return both(fair, 2, "burn(" + args(owner, pool, lo, hi) + ", " + l + ")",
                         () -> x.burn(owner, pool, lo, hi, l), () -> m.burn(owner, pool, lo, hi, l));
             }
