@@ -13,6 +13,8 @@ public final class PositionsTest {
     public static void main(String[] args) {
         promise4MintCostsWhatItIsWorthRoundedUp();
         promise4MintAfterThePriceMoved();
+        promise4MintInsideATick();
+        promise4ExactWorthIsNotRounded();
         promise4MintAddsToAPositionAndSettlesIt();
         promise4MintHasARoomOfTwelve();
         promise4MintRefusesIndices();
@@ -85,6 +87,39 @@ public final class PositionsTest {
         costs(z, 0, -10, -5, 1000000, 0, 122270);
         costs(z, 0, -5, 0, 1000000, 166326, 0);
         Check.same("at tick -6 with the price ROOT(-5) -10 .. -5 is in range", z.liquidity(0), 1000000);
+    }
+
+    private static void promise4MintInsideATick() {
+        RangeExchange x = rich(0, 0);
+        x.mint(1, 0, -40, 40, 1000000);
+        x.swap(1, 0, false, 1000, 40);
+        Check.same("a price inside tick 0", x.price(0), 4299262263L);
+        costs(x, 0, 0, 5, 1000000, 141608, 1000);
+        costs(x, 0, -5, 0, 1000000, 0, 142607);
+        costs(x, 0, 1, 5, 1000000, 112304, 0);
+        Check.same("0 .. 5 is in range, -5 .. 0 and 1 .. 5 are not", x.liquidity(0), 2000000);
+        x.burn(0, 0, 0, 5, 1000000);
+        Check.same("near owed", x.position(0, 0, 0, 5, 1), 141607);
+        Check.same("far owed", x.position(0, 0, 0, 5, 2), 999);
+        x.burn(0, 0, -5, 0, 1000000);
+        Check.same("near owed at tick hi", x.position(0, 0, -5, 0, 1), 0);
+        Check.same("far owed at tick hi", x.position(0, 0, -5, 0, 2), 142606);
+    }
+
+    /** ROOT(1) is 33 / 32 of ROOT(0): between them l is worth just l / 33 of near or l / 32 of far. */
+    private static void promise4ExactWorthIsNotRounded() {
+        RangeExchange x = rich(0, 0);
+        costs(x, 0, 0, 1, 33, 1, 0);
+        x.burn(0, 0, 0, 1, 33);
+        Check.same("33 is worth 1 of near", x.position(0, 0, 0, 1, 1), 1);
+        costs(x, 0, 0, 1, 1056, 32, 0);
+        x.burn(0, 0, 0, 1, 1056);
+        Check.same("1056 is worth 32 of near", x.position(0, 0, 0, 1, 1), 33);
+        x.swap(0, 0, false, 1, 1);
+        costs(x, 0, 0, 1, 1056, 0, 33);
+        x.burn(0, 0, 0, 1, 1056);
+        Check.same("1056 is worth 33 of far", x.position(0, 0, 0, 1, 2), 33);
+        costs(x, 0, 0, 1, 1057, 0, 34);
     }
 
     private static void promise4MintAddsToAPositionAndSettlesIt() {
