@@ -120,6 +120,14 @@ public final class PositionsTest {
         x.burn(0, 0, 0, 1, 1056);
         Check.same("1056 is worth 33 of far", x.position(0, 0, 0, 1, 2), 33);
         costs(x, 0, 0, 1, 1057, 0, 34);
+        RangeExchange y = rich(0, 0);
+        y.mint(1, 0, -40, 40, 6400);
+        y.swap(1, 0, false, 100, 40);
+        Check.same("a price of 65 * 2^26", y.price(0), 4362076160L);
+        costs(y, 0, 0, 1, 2145, 32, 34);
+        y.burn(0, 0, 0, 1, 2145);
+        Check.same("from there to ROOT(1) 2145 is worth 32 of near", y.position(0, 0, 0, 1, 1), 32);
+        Check.same("and 33.5 of far", y.position(0, 0, 0, 1, 2), 33);
     }
 
     private static void promise4MintAddsToAPositionAndSettlesIt() {

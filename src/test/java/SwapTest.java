@@ -15,6 +15,7 @@ public final class SwapTest {
         promise7FeesGoToThoseInRange();
         promise7TheWholeRestIsTheFee();
         promise7TheMostLiquidity();
+        promise7JustEnoughReachesTheTarget();
         promise7RefusesIndices();
         promise7RefusesArguments();
         promise7RefusesWhoHasTooLittle();
@@ -181,6 +182,25 @@ public final class SwapTest {
         Check.same("twelve times the most", x.liquidity(0), 600000000);
         Check.same("a swap through it", x.swap(1, 0, true, 1000000, -40), 998336);
         Check.same("its price", x.price(0), 4287820928L);
+    }
+
+    private static void justReached(int l, int amount, long got, long paid) {
+        RangeExchange x = new RangeExchange(0, 0);
+        x.give(0, 0, 1000);
+        x.give(1, 1, 1000);
+        x.mint(0, 0, 0, 1, l);
+        String what = "swap of " + amount + " through " + l;
+        Check.same(what, x.swap(1, 0, false, amount, 40), got);
+        Check.same("paid in " + what, x.paid(), paid);
+        Check.same("price after " + what, x.price(0), 4429185024L);
+        Check.same("tick after " + what, x.tick(0), 1);
+        Check.same("liquidity after " + what, x.liquidity(0), 0);
+    }
+
+    /** From ROOT(0) to ROOT(1) 3201 need 100.03 of far, up 101; 3210 have 97.27 of near, down 97. */
+    private static void promise7JustEnoughReachesTheTarget() {
+        justReached(3201, 101, 97, 101);
+        justReached(3210, -97, 97, 101);
     }
 
     private static void promise7RefusesIndices() {
