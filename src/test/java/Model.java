@@ -1,4 +1,6 @@
 import java.math.BigInteger;
+import java.util.ArrayList;
+import java.util.List;
 import java.util.Map;
 import java.util.NoSuchElementException;
 import java.util.TreeMap;
@@ -7,7 +9,7 @@ import java.util.TreeMap;
  * The document once more, in numbers without a bound and with copies of all state instead of care:
  * what RangeExchange answers is held against what this answers.
  */
-final class Model {
+final class Model implements Face {
     static final BigInteger ONE = BigInteger.ONE.shiftLeft(32);
     private static final BigInteger WRAP = BigInteger.ONE.shiftLeft(64);
 
@@ -77,8 +79,8 @@ final class Model {
     private final BigInteger[][] balances = new BigInteger[4][3];
     private final BigInteger[] given = new BigInteger[3];
     private final BigInteger[] held = new BigInteger[3];
-    final Pool[] pools = new Pool[2];
-    final TreeMap<String, Position> positions = new TreeMap<>();
+    private final Pool[] pools = new Pool[2];
+    private final TreeMap<String, Position> positions = new TreeMap<>();
     private BigInteger paid = BigInteger.ZERO;
     int crossings = 0;
 
@@ -132,11 +134,23 @@ final class Model {
         return x >= lo && x <= hi;
     }
 
+    /** Where there are positions. */
+    List<Counted.Place> places() {
+        List<Counted.Place> all = new ArrayList<>();
+        for (String key : positions.keySet()) {
+            String[] parts = key.split("/");
+            all.add(new Counted.Place(Integer.parseInt(parts[0]), Integer.parseInt(parts[1]),
+                    Integer.parseInt(parts[2]), Integer.parseInt(parts[3])));
+        }
+        return all;
+    }
+
     private static String key(int owner, int pool, int lo, int hi) {
         return owner + "/" + pool + "/" + lo + "/" + hi;
     }
 
-    long give(int owner, int token, int amount) {
+    @Override
+    public long give(int owner, int token, int amount) {
         need(in(owner, 0, 3) && in(token, 0, 2));
         if (amount < 0 || given[token].add(big(amount)).compareTo(big(100000000)) > 0) {
             throw new IllegalArgumentException();
@@ -146,7 +160,8 @@ final class Model {
         return balances[owner][token].longValueExact();
     }
 
-    long balance(int owner, int token) {
+    @Override
+    public long balance(int owner, int token) {
         need(in(owner, 0, 3) && in(token, 0, 2));
         return balances[owner][token].longValueExact();
     }
@@ -202,7 +217,8 @@ final class Model {
         }
     }
 
-    long mint(int owner, int pool, int lo, int hi, int l) {
+    @Override
+    public long mint(int owner, int pool, int lo, int hi, int l) {
         need(in(owner, 0, 3) && in(pool, 0, 1) && in(lo, -40, 40) && in(hi, -40, 40));
         Position q = positions.get(key(owner, pool, lo, hi));
         BigInteger amount = q == null ? BigInteger.ZERO : q.amount;
@@ -232,7 +248,8 @@ final class Model {
         held[token] = held[token].add(amount);
     }
 
-    long burn(int owner, int pool, int lo, int hi, int l) {
+    @Override
+    public long burn(int owner, int pool, int lo, int hi, int l) {
         need(in(owner, 0, 3) && in(pool, 0, 1) && in(lo, -40, 40) && in(hi, -40, 40));
         if (lo >= hi || l < 0) {
             throw new IllegalArgumentException();
@@ -256,7 +273,8 @@ final class Model {
         return q.amount.longValueExact();
     }
 
-    long collect(int owner, int pool, int lo, int hi) {
+    @Override
+    public long collect(int owner, int pool, int lo, int hi) {
         need(in(owner, 0, 3) && in(pool, 0, 1) && in(lo, -40, 40) && in(hi, -40, 40));
         Position q = positions.get(key(owner, pool, lo, hi));
         if (q == null) {
@@ -363,7 +381,8 @@ final class Model {
         return w;
     }
 
-    long swap(int owner, int pool, boolean down, int amount, int limit) {
+    @Override
+    public long swap(int owner, int pool, boolean down, int amount, int limit) {
         need(in(owner, 0, 3) && in(pool, 0, 1) && in(limit, -40, 40));
         int side = root(limit).compareTo(pools[pool].price);
         if (amount == 0 || !in(amount, -100000000, 100000000) || (down ? side >= 0 : side <= 0)) {
@@ -382,7 +401,8 @@ final class Model {
         return w.got.longValueExact();
     }
 
-    long route(int owner, int amount, int least) {
+    @Override
+    public long route(int owner, int amount, int least) {
         need(in(owner, 0, 3));
         if (!in(amount, 1, 100000000)) {
             throw new IllegalArgumentException();
@@ -408,31 +428,37 @@ final class Model {
         return b.got.longValueExact();
     }
 
-    long paid() {
+    @Override
+    public long paid() {
         return paid.longValueExact();
     }
 
-    long price(int pool) {
+    @Override
+    public long price(int pool) {
         need(in(pool, 0, 1));
         return pools[pool].price.longValueExact();
     }
 
-    long tick(int pool) {
+    @Override
+    public long tick(int pool) {
         need(in(pool, 0, 1));
         return pools[pool].tick;
     }
 
-    long liquidity(int pool) {
+    @Override
+    public long liquidity(int pool) {
         need(in(pool, 0, 1));
         return pools[pool].liquidity.intValueExact();
     }
 
-    long growth(int pool, int side) {
+    @Override
+    public long growth(int pool, int side) {
         need(in(pool, 0, 1) && in(side, 0, 1));
         return pools[pool].growth[side].longValue();
     }
 
-    long position(int owner, int pool, int lo, int hi, int what) {
+    @Override
+    public long position(int owner, int pool, int lo, int hi, int what) {
         Position q = positions.get(key(owner, pool, lo, hi));
         if (q == null || !in(what, 0, 2)) {
             return 0;
@@ -440,7 +466,8 @@ final class Model {
         return what == 0 ? q.amount.longValueExact() : q.owed[what - 1].longValueExact();
     }
 
-    long held(int token) {
+    @Override
+    public long held(int token) {
         need(in(token, 0, 2));
         return held[token].longValueExact();
     }

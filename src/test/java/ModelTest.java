@@ -1,84 +1,92 @@
-import java.math.BigInteger;
-import java.util.Map;
+import java.util.ArrayList;
+import java.util.List;
 import java.util.Random;
 
-/** Long runs of mixed calls, each answer and all that can be seen after it held against the Model. */
+/**
+ * Long runs of mixed calls, each answer held against the Model. Now and then the run so far is made once
+ * more on a new object, of which all is read then: so no object is asked more than its 512 calls.
+ */
 public final class ModelTest {
     private static final int RUNS = 560;
     private static final int MOODS = 7;
     private static final int AT_THE_TOP = 5;
     private static final int AT_THE_BOTTOM = 6;
-    private static final int CALLS = 512;
+    private static final int READ_EVERY = 9;
+    private static final int MOST_READ = 70;
+    private static final String[] KINDS = {"give", "mint", "burn", "collect", "swap", "route", "reading"};
+
+    private static final int[] fair = new int[KINDS.length];
+    private static int crossings = 0;
+    private static long mostLiquidity = 0;
+    private static int fullyRead = 0;
 
     private final Random random;
     private final int mood;
     private final int crowded;
-    private final RangeExchange x;
+    private final int first;
+    private final int second;
+    private final Counted x;
     private final Model m;
+    private final List<Edge.Act> made = new ArrayList<>();
     private final StringBuilder log = new StringBuilder();
 
     private ModelTest(int seed) {
         random = new Random(seed);
         mood = seed % MOODS;
         crowded = seed / MOODS % 2;
-        int first = pick(-1, 0, 1, 3, 30, 99, 100, 101, Integer.MAX_VALUE);
-        int second = pick(Integer.MIN_VALUE, 0, 2, 10, 50, 100, 1000);
-        x = new RangeExchange(first, second);
+        first = pick(-1, 0, 1, 3, 30, 99, 100, 101, Integer.MAX_VALUE);
+        second = pick(Integer.MIN_VALUE, 0, 2, 10, 50, 100, 1000);
+        x = new Counted(first, second);
         m = new Model(first, second);
         log.append("new(").append(first).append(", ").append(second).append(")");
-        if (mood >= AT_THE_TOP) {
-            crowd();
+    }
+
+    public static void main(String[] args) {
+        for (int seed = 0; seed < RUNS; seed++) {
+            new ModelTest(seed).run();
         }
+        System.out.println("ticks crossed: " + crossings + ", most liquidity: " + mostLiquidity
+                + ", fully read: " + fullyRead);
+        Check.holds("the runs cross ticks", crossings > 10000);
+        Check.holds("the runs reach the most liquidity", mostLiquidity > 550000000);
+        Check.holds("the runs are read", fullyRead > 10000);
+        for (int kind = 0; kind < KINDS.length; kind++) {
+            System.out.println(KINDS[kind] + " done without an exception: " + fair[kind]);
+            Check.holds(KINDS[kind] + " is done often", fair[kind] > 1000);
+        }
+        Check.finish("ModelTest");
+    }
+
+    private void run() {
+        boolean ok = mood < AT_THE_TOP || crowd();
+        while (ok && x.calls() < Counted.MOST_CALLS) {
+            ok = call();
+            mostLiquidity = Math.max(mostLiquidity, Math.max(m.liquidity(0), m.liquidity(1)));
+            if (ok && made.size() % READ_EVERY == 0 && made.size() + MOST_READ <= Counted.MOST_CALLS) {
+                ok = isReadTheSame();
+            }
+        }
+        crossings += m.crossings;
     }
 
     /**
      * Twelve positions of the most liquidity stand upon one another at an end of the ticks, and
      * one owner has enough to move the price through them.
      */
-    private void crowd() {
-        int[] none = new int[9];
+    private boolean crowd() {
+        boolean ok = true;
         for (int i = 0; i < 12; i++) {
             int owner = i % 4;
             int token = i / 4;
             boolean moves = token == (mood == AT_THE_TOP ? crowded + 1 : crowded);
-            int amount = !moves ? 25000000 : owner == 0 ? 97000000 : 1000000;
-            both(none, 0, "give(" + owner + ", " + token + ", " + amount + ")",
-                    () -> x.give(owner, token, amount), () -> m.give(owner, token, amount));
+            ok = ok && give(owner, token, !moves ? 25000000 : owner == 0 ? 97000000 : 1000000);
         }
         for (int i = 0; i < 12; i++) {
-            int owner = i % 4;
             int lo = mood == AT_THE_TOP ? 37 + i / 4 : -40;
             int hi = mood == AT_THE_TOP ? 40 : -37 - i / 4;
-            both(none, 1, "mint(" + args(owner, crowded, lo, hi) + ", 50000000)",
-                    () -> x.mint(owner, crowded, lo, hi, 50000000),
-                    () -> m.mint(owner, crowded, lo, hi, 50000000));
+            ok = ok && mint(i % 4, crowded, lo, hi, 50000000);
         }
-    }
-
-    public static void main(String[] args) {
-        int crossings = 0;
-        long most = 0;
-        int[] fair = new int[9];
-        for (int seed = 0; seed < RUNS; seed++) {
-            ModelTest run = new ModelTest(seed);
-            for (int i = 0; i < CALLS; i++) {
-                if (!run.call(fair)) {
-                    break;
-                }
-                most = Math.max(most, Math.max(run.m.liquidity(0), run.m.liquidity(1)));
-            }
-            crossings += run.m.crossings;
-        }
-        System.out.println("ticks crossed: " + crossings + ", calls that did not throw: give " + fair[0]
-                + ", mint " + fair[1] + ", burn " + fair[2] + ", collect " + fair[3]
-                + ", swap " + fair[4] + ", route " + fair[5]);
-        System.out.println("most liquidity: " + most);
-        Check.holds("the runs cross ticks", crossings > 10000);
-        Check.holds("the runs come near the most liquidity", most > 550000000);
-        for (int kind = 0; kind < 6; kind++) {
-            Check.holds("calls of kind " + kind + " were done", fair[kind] > 1000);
-        }
-        Check.finish("ModelTest");
+        return ok;
     }
 
     private int pick(int... from) {
@@ -147,95 +155,105 @@ public final class ModelTest {
         }
     }
 
-    private boolean call(int[] fair) {
-        int o = owner();
-        int p = pool();
+    private boolean call() {
         int a = tick();
         int b = tick();
         int lo = random.nextInt(20) == 0 ? a : Math.min(a, b);
         int hi = random.nextInt(20) == 0 ? b : Math.max(a, b);
-        int kind = pick(0, 1, 1, 1, 1, 2, 2, 2, 3, 3, 4, 4, 4, 4, 4, 4, 4, 5, 5, 6);
-        if ((kind == 2 || kind == 3) && !m.positions.isEmpty() && random.nextInt(15) != 0) {
-            Object[] keys = m.positions.keySet().toArray();
-            String[] parts = ((String) keys[random.nextInt(keys.length)]).split("/");
-            o = Integer.parseInt(parts[0]);
-            p = Integer.parseInt(parts[1]);
-            lo = Integer.parseInt(parts[2]);
-            hi = Integer.parseInt(parts[3]);
-        }
-        boolean ok = compare(kind, o, p, lo, hi, fair);
-        return ok && sameState(o, p, lo, hi);
-    }
-
-    private boolean compare(int kind, int owner, int pool, int lo, int hi, int[] fair) {
-        switch (kind) {
-            case 0: {
-                int t = token();
-                int n = mood < 2 ? size() * 40 : size();
-                return both(fair, 0, "give(" + owner + ", " + t + ", " + n + ")",
-                        () -> x.give(owner, t, n), () -> m.give(owner, t, n));
-            }
-            case 1: {
-                int l = size();
-                return both(fair, 1, "mint(" + args(owner, pool, lo, hi) + ", " + l + ")",
-                        () -> x.mint(owner, pool, lo, hi, l), () -> m.mint(owner, pool, lo, hi, l));
-            }
-            case 2: {
-                int amount = (int) m.position(owner, pool, lo, hi, 0);
-                int l = mood >= AT_THE_TOP ? pick(0, 0, 0, 0, 0, 1, amount, amount / 100)
-                        : pick(0, amount, amount / 2, amount + 1, size(), 1);
-                return both(fair, 2, "burn(" + args(owner, pool, lo, hi) + ", " + l + ")",
-                        () -> x.burn(owner, pool, lo, hi, l), () -> m.burn(owner, pool, lo, hi, l));
-            }
+        switch (pick(0, 1, 1, 1, 1, 2, 2, 2, 3, 3, 4, 4, 4, 4, 4, 4, 4, 5, 5, 6)) {
+            case 0:
+                return give(owner(), token(), mood < 2 ? size() * 40 : size());
+            case 1:
+                return mint(owner(), pool(), lo, hi, size());
+            case 2:
+                return burn(placeOr(owner(), pool(), lo, hi));
             case 3:
-                return both(fair, 3, "collect(" + args(owner, pool, lo, hi) + ")",
-                        () -> x.collect(owner, pool, lo, hi), () -> m.collect(owner, pool, lo, hi));
-            case 4: {
-                boolean down = random.nextBoolean();
-                int n = random.nextBoolean() ? size() : -size();
-                int limit = random.nextInt(3) == 0 ? tick() : down ? -40 : 40;
-                return both(fair, 4,
-                        "swap(" + owner + ", " + pool + ", " + down + ", " + n + ", " + limit + ")",
-                        () -> x.swap(owner, pool, down, n, limit),
-                        () -> m.swap(owner, pool, down, n, limit));
-            }
-            case 5: {
-                int n = size();
-                int least = pick(0, 0, -5, 1, size(), n / 2, Integer.MIN_VALUE);
-                return both(fair, 5, "route(" + owner + ", " + n + ", " + least + ")",
-                        () -> x.route(owner, n, least), () -> m.route(owner, n, least));
-            }
+                return collect(placeOr(owner(), pool(), lo, hi));
+            case 4:
+                return swap(owner(), pool(), random.nextBoolean());
+            case 5:
+                return route(owner(), size());
             default:
-                return readings();
+                return reading(placeOr(owner(), pool(), lo, hi));
         }
     }
 
-    private static String args(int owner, int pool, int lo, int hi) {
-        return owner + ", " + pool + ", " + lo + ", " + hi;
+    /** Mostly a position that there is. */
+    private Counted.Place placeOr(int owner, int pool, int lo, int hi) {
+        List<Counted.Place> places = m.places();
+        return places.isEmpty() || random.nextInt(15) == 0 ? new Counted.Place(owner, pool, lo, hi)
+                : places.get(random.nextInt(places.size()));
     }
 
-    private boolean readings() {
-        int o = owner();
-        int t = token();
-        int p = pool();
-        int s = pick(-1, 0, 1, 2, Integer.MIN_VALUE, Integer.MAX_VALUE);
-        int[] none = new int[9];
-        return both(none, 6, "balance(" + o + ", " + t + ")", () -> x.balance(o, t), () -> m.balance(o, t))
-                && both(none, 6, "held(" + t + ")", () -> x.held(t), () -> m.held(t))
-                && both(none, 6, "price(" + p + ")", () -> x.price(p), () -> m.price(p))
-                && both(none, 6, "tick(" + p + ")", () -> x.tick(p), () -> m.tick(p))
-                && both(none, 6, "liquidity(" + p + ")", () -> x.liquidity(p), () -> m.liquidity(p))
-                && both(none, 6, "growth(" + p + ", " + s + ")", () -> x.growth(p, s), () -> m.growth(p, s));
+    private boolean give(int owner, int token, int amount) {
+        return both(0, owner + ", " + token + ", " + amount, f -> f.give(owner, token, amount));
     }
 
-    private boolean both(int[] fair, int kind, String text, Check.Call got, Check.Call due) {
+    private boolean mint(int owner, int pool, int lo, int hi, int l) {
+        return both(1, owner + ", " + pool + ", " + lo + ", " + hi + ", " + l,
+                f -> f.mint(owner, pool, lo, hi, l));
+    }
+
+    private boolean burn(Counted.Place p) {
+        int amount = (int) m.position(p.owner, p.pool, p.lo, p.hi, 0);
+        int l = mood >= AT_THE_TOP ? pick(0, 0, 0, 0, 0, 1, amount, amount / 100)
+                : pick(0, amount, amount / 2, amount + 1, size(), 1);
+        return both(2, p + ", " + l, f -> f.burn(p.owner, p.pool, p.lo, p.hi, l));
+    }
+
+    private boolean collect(Counted.Place p) {
+        return both(3, p.toString(), f -> f.collect(p.owner, p.pool, p.lo, p.hi));
+    }
+
+    private boolean swap(int owner, int pool, boolean down) {
+        int amount = random.nextBoolean() ? size() : -size();
+        int limit = random.nextInt(3) == 0 ? tick() : down ? -40 : 40;
+        return both(4, owner + ", " + pool + ", " + down + ", " + amount + ", " + limit,
+                f -> f.swap(owner, pool, down, amount, limit));
+    }
+
+    private boolean route(int owner, int amount) {
+        int least = pick(0, 0, -5, 1, size(), amount / 2, Integer.MIN_VALUE);
+        return both(5, owner + ", " + amount + ", " + least, f -> f.route(owner, amount, least));
+    }
+
+    private boolean reading(Counted.Place p) {
+        int owner = owner();
+        int token = token();
+        int pool = pool();
+        int side = pick(-1, 0, 1, 2, Integer.MIN_VALUE, Integer.MAX_VALUE);
+        int what = pick(-1, 0, 1, 2, 3, Integer.MIN_VALUE, Integer.MAX_VALUE);
+        switch (random.nextInt(8)) {
+            case 0:
+                return both(6, "balance " + owner + ", " + token, f -> f.balance(owner, token));
+            case 1:
+                return both(6, "held " + token, f -> f.held(token));
+            case 2:
+                return both(6, "price " + pool, f -> f.price(pool));
+            case 3:
+                return both(6, "tick " + pool, f -> f.tick(pool));
+            case 4:
+                return both(6, "liquidity " + pool, f -> f.liquidity(pool));
+            case 5:
+                return both(6, "growth " + pool + ", " + side, f -> f.growth(pool, side));
+            case 6:
+                return both(6, "position " + p + ", " + what,
+                        f -> f.position(p.owner, p.pool, p.lo, p.hi, what));
+            default:
+                return both(6, "paid", f -> f.paid());
+        }
+    }
+
+    private boolean both(int kind, String arguments, Edge.Act act) {
+        String text = KINDS[kind] + "(" + arguments + ")";
         log.append("; ").append(text);
-        String answer = Check.outcome(got);
-        String want = Check.outcome(due);
-        if (!want.startsWith("throws")) {
+        made.add(act);
+        String got = Check.outcome(() -> act.on(x));
+        String due = Check.outcome(() -> act.on(m));
+        if (!due.startsWith("throws")) {
             fair[kind]++;
         }
-        return agree(text, answer, want);
+        return agree(text, got, due);
     }
 
     private boolean agree(String what, String got, String due) {
@@ -246,40 +264,24 @@ public final class ModelTest {
         return got.equals(due);
     }
 
-    private boolean sameState(int owner, int pool, int lo, int hi) {
-        boolean ok = agree("paid()", "" + x.paid(), "" + m.paid());
-        for (int t = 0; t < 3 && ok; t++) {
-            BigInteger all = BigInteger.valueOf(x.held(t));
-            ok = agree("held(" + t + ")", "" + x.held(t), "" + m.held(t));
-            Check.holds("held(" + t + ") is not below 0", x.held(t) >= 0);
-            for (int o = 0; o < 4 && ok; o++) {
-                ok = agree("balance(" + o + ", " + t + ")", "" + x.balance(o, t), "" + m.balance(o, t));
-                all = all.add(BigInteger.valueOf(x.balance(o, t)));
-            }
-            Check.holds("no token is made", all.compareTo(BigInteger.valueOf(100000000)) <= 0);
+    private boolean isReadTheSame() {
+        Counted again = new Counted(first, second);
+        for (Edge.Act act : made) {
+            Check.outcome(() -> act.on(again));
         }
-        for (int p = 0; p < 2 && ok; p++) {
-            ok = agree("price(" + p + ")", "" + x.price(p), "" + m.price(p))
-                    && agree("tick(" + p + ")", "" + x.tick(p), "" + m.tick(p))
-                    && agree("liquidity(" + p + ")", "" + x.liquidity(p), "" + m.liquidity(p))
-                    && agree("growth(" + p + ", 0)", "" + x.growth(p, 0), "" + m.growth(p, 0))
-                    && agree("growth(" + p + ", 1)", "" + x.growth(p, 1), "" + m.growth(p, 1));
-        }
-        for (Map.Entry<String, Model.Position> e : m.positions.entrySet()) {
-            String[] k = e.getKey().split("/");
-            ok = ok && samePosition(Integer.parseInt(k[0]), Integer.parseInt(k[1]),
-                    Integer.parseInt(k[2]), Integer.parseInt(k[3]));
-        }
-        return ok && samePosition(owner, pool, lo, hi);
+        fullyRead++;
+        tokensAreKept();
+        return agree("all that can be seen", Seen.of(again, m.places()), Seen.of(m, m.places()));
     }
 
-    private boolean samePosition(int owner, int pool, int lo, int hi) {
-        boolean ok = true;
-        for (int what = -1; what <= 3 && ok; what++) {
-            ok = agree("position(" + args(owner, pool, lo, hi) + ", " + what + ")",
-                    "" + x.position(owner, pool, lo, hi, what),
-                    "" + m.position(owner, pool, lo, hi, what));
+    private void tokensAreKept() {
+        for (int token = 0; token < 3; token++) {
+            long all = m.held(token);
+            Check.holds("held(" + token + ") is not below 0", all >= 0);
+            for (int owner = 0; owner < 4; owner++) {
+                all += m.balance(owner, token);
+            }
+            Check.holds("no token is made", all <= 100000000);
         }
-        return ok;
     }
 }

@@ -1,35 +1,28 @@
-/** Promises 7 (swap), 9 (paid), 10 (price), 11 (tick), 12 (liquidity), 13 (growth). */
+/** Promise 7 (swap): its answers, what the owner pays and gets, and what it refuses. */
 public final class SwapTest {
-    private static final Class<IndexOutOfBoundsException> INDEX = IndexOutOfBoundsException.class;
-    private static final Class<IllegalArgumentException> ARGUMENT = IllegalArgumentException.class;
-    private static final Class<IllegalStateException> STATE = IllegalStateException.class;
-    private static final int[] OUT_OF_PAIRS = {-1, 2, Integer.MIN_VALUE, Integer.MAX_VALUE};
-    private static final long LOWEST_ROOT = 1254299944L;
-    private static final long HIGHEST_ROOT = 14706804614L;
-
     public static void main(String[] args) {
         promise7OneStepOfEachKind();
-        promise7RootsAreTheLimits();
-        promise7CrossesTicksBothWays();
-        promise7StopsAtALimitThatIsSet();
         promise7FeesGoToThoseInRange();
-        promise7TheWholeRestIsTheFee();
         promise7TheMostLiquidity();
-        promise7JustEnoughReachesTheTarget();
-        promise7RefusesIndices();
-        promise7RefusesArguments();
-        promise7RefusesWhoHasTooLittle();
-        promise9PaidIsOfTheLatestDone();
-        promise10Price();
-        promise11Tick();
-        promise12Liquidity();
-        promise13Growth();
+        promise7OwnerOutOfRange();
+        promise7PoolOutOfRange();
+        promise7LimitOutOfRange();
+        promise7AmountIs0();
+        promise7AmountNotWithin100000000();
+        promise7LimitNotBelowThePriceDown();
+        promise7LimitNotAboveThePriceUp();
+        promise7LimitAtTheEnds();
+        promise7TooLittleToPayExactIn();
+        promise7TooLittleToPayForWhatIsPaidOut();
+        promise7TooLittleToPayThroughManyTicks();
+        promise7OnlyWhatIsReallyPaidMustBeHad();
+        promise7OfSeveralExceptionsTheFirst();
         Check.finish("SwapTest");
     }
 
-    /** Owner 0 has lent 1000000 from end to end in both pools. */
-    private static RangeExchange lent(int fee) {
-        RangeExchange x = new RangeExchange(fee, fee);
+    /** Owner 0 has lent 1000000 from end to end in both pools, owner 1 has 40000000 of each token. */
+    private static Counted lent(int fee) {
+        Counted x = new Counted(fee, fee);
         for (int token = 0; token < 3; token++) {
             x.give(0, token, 50000000);
             x.give(1, token, 40000000);
@@ -39,9 +32,13 @@ public final class SwapTest {
         return x;
     }
 
+    private static Counted lent() {
+        return lent(0);
+    }
+
     private static void oneStep(int fee, boolean down, int amount, long[] due) {
         for (int pool = 0; pool < 2; pool++) {
-            RangeExchange x = lent(fee);
+            Counted x = lent(fee);
             int in = down ? pool : pool + 1;
             int out = down ? pool + 1 : pool;
             long heldIn = x.held(in);
@@ -72,58 +69,8 @@ public final class SwapTest {
         oneStep(100, false, -1000, new long[] {1000, 1114, 4299266563L, 481036});
     }
 
-    private static void promise7RootsAreTheLimits() {
-        RangeExchange x = new RangeExchange(0, 0);
-        for (int t = -1; t >= -40; t--) {
-            Check.same("empty swap down to " + t, x.swap(0, 0, true, 1, t), 0);
-            Check.same("ROOT(" + t + ")", x.price(0), Model.root(t).longValueExact());
-            Check.same("tick at ROOT(" + t + ")", x.tick(0), t == -40 ? -41 : t);
-        }
-        for (int t = -39; t <= 40; t++) {
-            Check.same("empty swap up to " + t, x.swap(0, 0, false, -1, t), 0);
-            Check.same("ROOT(" + t + ") again", x.price(0), Model.root(t).longValueExact());
-            Check.same("tick at ROOT(" + t + ") again", x.tick(0), t);
-        }
-        Check.same("ROOT(40)", x.price(0), HIGHEST_ROOT);
-    }
-
-    private static void promise7CrossesTicksBothWays() {
-        RangeExchange x = lent(0);
-        x.mint(0, 0, -4, -2, 2000000);
-        x.mint(0, 0, -2, 3, 4000000);
-        Check.same("liquidity at 0", x.liquidity(0), 5000000);
-        x.swap(1, 0, true, 40000000, -1);
-        Check.same("down to -1", x.liquidity(0), 5000000);
-        x.swap(1, 0, true, 40000000, -3);
-        Check.same("down over -2", x.liquidity(0), 3000000);
-        Check.same("tick after that", x.tick(0), -3);
-        x.swap(1, 0, true, 40000000, -5);
-        Check.same("down over -4", x.liquidity(0), 1000000);
-        x.swap(1, 0, false, 40000000, -4);
-        Check.same("up to -4, which is set", x.liquidity(0), 3000000);
-        Check.same("tick there", x.tick(0), -4);
-        x.swap(1, 0, false, 40000000, 5);
-        Check.same("up over -2 and 3", x.liquidity(0), 1000000);
-        x.swap(1, 0, true, 40000000, 2);
-        Check.same("down over 3", x.liquidity(0), 5000000);
-    }
-
-    private static void promise7StopsAtALimitThatIsSet() {
-        RangeExchange x = lent(0);
-        x.mint(0, 0, -3, 3, 1000000);
-        x.swap(1, 0, true, 40000000, -3);
-        Check.same("down to a limit that is set: it is crossed", x.liquidity(0), 1000000);
-        Check.same("tick below it", x.tick(0), -4);
-        Check.same("price at it", x.price(0), Model.root(-3).longValueExact());
-        Check.refuses("down to where the price is", ARGUMENT, () -> x.swap(1, 0, true, 1, -3));
-        Check.refuses("up to where the price is", ARGUMENT, () -> x.swap(1, 0, false, 1, -3));
-        x.swap(1, 0, false, 1, 40);
-        Check.same("up from there: it is crossed first", x.liquidity(0), 2000000);
-        Check.same("tick above it", x.tick(0), -3);
-    }
-
     private static void promise7FeesGoToThoseInRange() {
-        RangeExchange x = lent(100);
+        Counted x = lent(100);
         x.mint(0, 0, 1, 9, 3000000);
         x.mint(1, 0, -9, -1, 3000000);
         x.swap(1, 0, true, -1000, -40);
@@ -148,26 +95,8 @@ public final class SwapTest {
         Check.same("a later one is owed nothing", x.position(1, 0, -12, -9, 1), 0);
     }
 
-    private static void promise7TheWholeRestIsTheFee() {
-        RangeExchange x = lent(1);
-        Check.same("1 in, none of it useful", x.swap(1, 0, true, 1, -40), 0);
-        Check.same("it is paid", x.paid(), 1);
-        Check.same("the price stands", x.price(0), 4294967296L);
-        Check.same("the tick stands", x.tick(0), 0);
-        Check.same("it is a fee", x.growth(0, 0), 4294);
-        x.swap(1, 0, true, 40000000, -3);
-        x.mint(1, 0, -3, 3, 1000000);
-        Check.same("tick at ROOT(-3), not set before", x.tick(0), -3);
-        x.swap(1, 0, true, 1, -40);
-        Check.same("a set tick is crossed even when the price stands", x.tick(0), -4);
-        Check.same("with its liquidity", x.liquidity(0), 1000000);
-        Check.same("price there", x.price(0), Model.root(-3).longValueExact());
-        x.swap(1, 0, true, 1, -40);
-        Check.same("and the tick stays when the price does", x.tick(0), -4);
-    }
-
     private static void promise7TheMostLiquidity() {
-        RangeExchange x = new RangeExchange(0, 0);
+        Counted x = new Counted(0, 0);
         x.give(0, 0, 50000000);
         x.give(0, 1, 50000000);
         x.give(1, 0, 50000000);
@@ -184,144 +113,223 @@ public final class SwapTest {
         Check.same("its price", x.price(0), 4287820928L);
     }
 
-    private static void justReached(int l, int amount, long got, long paid) {
-        RangeExchange x = new RangeExchange(0, 0);
-        x.give(0, 0, 1000);
-        x.give(1, 1, 1000);
-        x.mint(0, 0, 0, 1, l);
-        String what = "swap of " + amount + " through " + l;
-        Check.same(what, x.swap(1, 0, false, amount, 40), got);
-        Check.same("paid in " + what, x.paid(), paid);
-        Check.same("price after " + what, x.price(0), 4429185024L);
-        Check.same("tick after " + what, x.tick(0), 1);
-        Check.same("liquidity after " + what, x.liquidity(0), 0);
+    private static void promise7OwnerOutOfRange() {
+        Edge.allowed("swap by owner 0", SwapTest::lent, x -> x.swap(0, 0, true, 1000, -40), 999);
+        Edge.allowed("swap by owner 3", () -> having(3, 0, 1000), x -> x.swap(3, 0, true, 1000, -40), 999);
+        for (int owner : Edge.OUT_OF_OWNERS) {
+            Edge.refused("swap by owner " + owner, Edge.INDEX, SwapTest::lent,
+                    x -> x.swap(owner, 0, true, 1000, -40));
+        }
     }
 
-    /** From ROOT(0) to ROOT(1) 3201 need 100.03 of far, up 101; 3210 have 97.27 of near, down 97. */
-    private static void promise7JustEnoughReachesTheTarget() {
-        justReached(3201, 101, 97, 101);
-        justReached(3210, -97, 97, 101);
+    private static void promise7PoolOutOfRange() {
+        Edge.allowed("swap in pool 0", SwapTest::lent, x -> x.swap(1, 0, true, 1000, -40), 999);
+        Edge.allowed("swap in pool 1", SwapTest::lent, x -> x.swap(1, 1, true, 1000, -40), 999);
+        for (int pool : Edge.OUT_OF_POOLS) {
+            Edge.refused("swap in pool " + pool, Edge.INDEX, SwapTest::lent,
+                    x -> x.swap(1, pool, true, 1000, -40));
+        }
     }
 
-    private static void promise7RefusesIndices() {
-        RangeExchange x = lent(0);
-        for (int owner : new int[] {-1, 4, Integer.MIN_VALUE, Integer.MAX_VALUE}) {
-            Seen.refused(x, "swap by owner " + owner, INDEX, () -> x.swap(owner, 0, true, 1, -40));
+    private static void promise7LimitOutOfRange() {
+        Edge.allowed("swap down to -40", SwapTest::lent, x -> x.swap(1, 0, true, 1000, -40), 999);
+        Edge.allowed("swap up to 40", SwapTest::lent, x -> x.swap(1, 0, false, 1000, 40), 999);
+        for (int limit : Edge.OUT_OF_TICKS) {
+            Edge.refused("swap down to " + limit, Edge.INDEX, SwapTest::lent,
+                    x -> x.swap(1, 0, true, 1000, limit));
+            Edge.refused("swap up to " + limit, Edge.INDEX, SwapTest::lent,
+                    x -> x.swap(1, 0, false, 1000, limit));
         }
-        for (int pool : OUT_OF_PAIRS) {
-            Seen.refused(x, "swap in pool " + pool, INDEX, () -> x.swap(1, pool, true, 1, -40));
-        }
-        for (int limit : new int[] {-41, 41, Integer.MIN_VALUE, Integer.MAX_VALUE}) {
-            Seen.refused(x, "swap down to " + limit, INDEX, () -> x.swap(1, 0, true, 1, limit));
-            Seen.refused(x, "swap up to " + limit, INDEX, () -> x.swap(1, 0, false, 1, limit));
-        }
-        Seen.refused(x, "swap with a wrong limit and amount", INDEX, () -> x.swap(1, 0, true, 0, -41));
     }
 
-    private static void promise7RefusesArguments() {
-        RangeExchange x = lent(0);
-        int[] wrong = {0, 100000001, -100000001, Integer.MIN_VALUE, Integer.MAX_VALUE};
+    /** "IllegalArgumentException when amount is 0" */
+    private static void promise7AmountIs0() {
+        for (int pool = 0; pool < 2; pool++) {
+            int p = pool;
+            Edge.allowed("swap down of 1", SwapTest::lent, x -> x.swap(1, p, true, 1, -40), 0);
+            Edge.allowed("swap up of 1", SwapTest::lent, x -> x.swap(1, p, false, 1, 40), 0);
+            Edge.allowed("swap down of -1", SwapTest::lent, x -> x.swap(1, p, true, -1, -40), 1);
+            Edge.allowed("swap up of -1", SwapTest::lent, x -> x.swap(1, p, false, -1, 40), 1);
+            Edge.refused("swap down of 0", Edge.ARGUMENT, SwapTest::lent, x -> x.swap(1, p, true, 0, -40));
+            Edge.refused("swap up of 0", Edge.ARGUMENT, SwapTest::lent, x -> x.swap(1, p, false, 0, 40));
+        }
+    }
+
+    /** "or not -100000000 .. 100000000" */
+    private static void promise7AmountNotWithin100000000() {
+        for (int amount : new int[] {100000000, -100000000}) {
+            Edge.allowed("swap down of " + amount, SwapTest::lent, x -> x.swap(1, 0, true, amount, -40), 707960);
+            Edge.allowed("swap up of " + amount, SwapTest::lent, x -> x.swap(1, 0, false, amount, 40), 707960);
+        }
+        int[] wrong = {100000001, -100000001, Integer.MAX_VALUE, Integer.MIN_VALUE, -Integer.MAX_VALUE};
         for (int amount : wrong) {
-            Seen.refused(x, "swap of " + amount, ARGUMENT, () -> x.swap(1, 0, true, amount, -40));
+            Edge.refused("swap down of " + amount, Edge.ARGUMENT, SwapTest::lent,
+                    x -> x.swap(1, 0, true, amount, -40));
+            Edge.refused("swap up of " + amount, Edge.ARGUMENT, SwapTest::lent,
+                    x -> x.swap(1, 0, false, amount, 40));
         }
-        Seen.refused(x, "swap down to the price", ARGUMENT, () -> x.swap(1, 0, true, 1, 0));
-        Seen.refused(x, "swap down to above", ARGUMENT, () -> x.swap(1, 0, true, 1, 1));
-        Seen.refused(x, "swap up to the price", ARGUMENT, () -> x.swap(1, 0, false, 1, 0));
-        Seen.refused(x, "swap up to below", ARGUMENT, () -> x.swap(1, 0, false, 1, -1));
-        Seen.refused(x, "a wrong limit before too little", ARGUMENT, () -> x.swap(2, 0, true, 5, 1));
-        Check.holds("the most in", x.swap(1, 0, true, 100000000, -40) > 0);
-        Check.holds("the most out", x.swap(1, 0, false, -100000000, 40) > 0);
-        Check.same("at the upper end", x.price(0), HIGHEST_ROOT);
-        Seen.refused(x, "up at the upper end", ARGUMENT, () -> x.swap(1, 0, false, 1, 40));
-        x.swap(1, 0, true, 100000000, -40);
-        Check.same("at the lower end", x.price(0), LOWEST_ROOT);
-        Seen.refused(x, "down at the lower end", ARGUMENT, () -> x.swap(1, 0, true, 1, -40));
     }
 
-    private static void promise7RefusesWhoHasTooLittle() {
-        RangeExchange x = lent(100);
-        x.mint(0, 0, -5, 5, 1000000);
-        x.give(2, 0, 999);
-        Seen.refused(x, "exact in with 1 too little", STATE, () -> x.swap(2, 0, true, 1000, -40));
-        Seen.refused(x, "through many ticks", STATE, () -> x.swap(2, 0, true, 1000000, -40));
-        Seen.refused(x, "exact out with too little", STATE, () -> x.swap(2, 0, true, -5000, -40));
-        Seen.refused(x, "the other way", STATE, () -> x.swap(2, 0, false, 1000000, 40));
-        x.burn(0, 0, -5, 5, 0);
-        Check.same("no fee of a refused swap is owed", x.position(0, 0, -5, 5, 1), 0);
-        Check.same("no far fee either", x.position(0, 0, -5, 5, 2), 0);
-        x.give(2, 0, 1);
-        Check.same("with just enough", x.swap(2, 0, true, 1000, -40), 899);
+    /** The price is 4294971590, a little above ROOT(0). */
+    private static Counted above() {
+        Counted x = lent();
+        x.swap(1, 0, false, 1, 40);
+        return x;
+    }
+
+    /** The price is 4294963002, a little below ROOT(0). */
+    private static Counted below() {
+        Counted x = lent();
+        x.swap(1, 0, true, 1, -40);
+        return x;
+    }
+
+    /** "or the limit is not below the price (down)" */
+    private static void promise7LimitNotBelowThePriceDown() {
+        Edge.allowed("from ROOT(0) to -1", SwapTest::lent, x -> x.swap(1, 0, true, 1000, -1), 999);
+        Edge.refused("from ROOT(0) to 0", Edge.ARGUMENT, SwapTest::lent, x -> x.swap(1, 0, true, 1000, 0));
+        Edge.refused("from ROOT(0) to 1", Edge.ARGUMENT, SwapTest::lent, x -> x.swap(1, 0, true, 1000, 1));
+        Edge.refused("from ROOT(0) to 0, paid out", Edge.ARGUMENT, SwapTest::lent,
+                x -> x.swap(1, 0, true, -1000, 0));
+        Edge.allowed("from above ROOT(0) to 0", SwapTest::above, x -> x.swap(1, 0, true, 1000, 0), 0);
+        Edge.refused("from above ROOT(0) to 1", Edge.ARGUMENT, SwapTest::above,
+                x -> x.swap(1, 0, true, 1000, 1));
+        Edge.allowed("from below ROOT(0) to -1", SwapTest::below, x -> x.swap(1, 0, true, 1000, -1), 998);
+        Edge.refused("from below ROOT(0) to 0", Edge.ARGUMENT, SwapTest::below,
+                x -> x.swap(1, 0, true, 1000, 0));
+        Edge.refused("down to 40", Edge.ARGUMENT, SwapTest::lent, x -> x.swap(1, 0, true, 1000, 40));
+    }
+
+    /** "or above it (up)" */
+    private static void promise7LimitNotAboveThePriceUp() {
+        Edge.allowed("from ROOT(0) to 1", SwapTest::lent, x -> x.swap(1, 0, false, 1000, 1), 999);
+        Edge.refused("from ROOT(0) to 0", Edge.ARGUMENT, SwapTest::lent, x -> x.swap(1, 0, false, 1000, 0));
+        Edge.refused("from ROOT(0) to -1", Edge.ARGUMENT, SwapTest::lent,
+                x -> x.swap(1, 0, false, 1000, -1));
+        Edge.refused("from ROOT(0) to 0, paid out", Edge.ARGUMENT, SwapTest::lent,
+                x -> x.swap(1, 0, false, -1000, 0));
+        Edge.allowed("from below ROOT(0) to 0", SwapTest::below, x -> x.swap(1, 0, false, 1000, 0), 0);
+        Edge.refused("from below ROOT(0) to -1", Edge.ARGUMENT, SwapTest::below,
+                x -> x.swap(1, 0, false, 1000, -1));
+        Edge.allowed("from above ROOT(0) to 1", SwapTest::above, x -> x.swap(1, 0, false, 1000, 1), 998);
+        Edge.refused("from above ROOT(0) to 0", Edge.ARGUMENT, SwapTest::above,
+                x -> x.swap(1, 0, false, 1000, 0));
+        Edge.refused("up to -40", Edge.ARGUMENT, SwapTest::lent, x -> x.swap(1, 0, false, 1000, -40));
+    }
+
+    private static Counted moved(boolean down, int amount, int back) {
+        Counted x = lent();
+        x.swap(1, 0, down, amount, down ? -40 : 40);
+        if (back != 0) {
+            x.swap(1, 0, !down, back, down ? 40 : -40);
+        }
+        return x;
+    }
+
+    private static void promise7LimitAtTheEnds() {
+        Edge.Maker bottom = () -> moved(true, 100000000, 0);
+        Check.same("the lowest price", bottom.make().price(0), 1254299944L);
+        Edge.allowed("up from ROOT(-40) to -39", bottom, x -> x.swap(1, 0, false, 1000, -39), 11685);
+        Edge.refused("up from ROOT(-40) to it", Edge.ARGUMENT, bottom, x -> x.swap(1, 0, false, 1000, -40));
+        Edge.refused("down from ROOT(-40) to it", Edge.ARGUMENT, bottom, x -> x.swap(1, 0, true, 1000, -40));
+        Edge.Maker nearBottom = () -> moved(true, 100000000, 1);
+        Edge.allowed("down from above ROOT(-40)", nearBottom, x -> x.swap(1, 0, true, 1000, -40), 0);
+        Edge.Maker top = () -> moved(false, 100000000, 0);
+        Check.same("the highest price", top.make().price(0), 14706804614L);
+        Edge.allowed("down from ROOT(40) to 39", top, x -> x.swap(1, 0, true, 1000, 39), 11685);
+        Edge.refused("down from ROOT(40) to it", Edge.ARGUMENT, top, x -> x.swap(1, 0, true, 1000, 40));
+        Edge.refused("up from ROOT(40) to it", Edge.ARGUMENT, top, x -> x.swap(1, 0, false, 1000, 40));
+        Edge.Maker nearTop = () -> moved(false, 100000000, 1);
+        Edge.allowed("up from below ROOT(40)", nearTop, x -> x.swap(1, 0, false, 1000, 40), 0);
+    }
+
+    /** With fee 100 and a position from -5 to 5 besides, an owner has just so much of a token. */
+    private static Counted having(int owner, int token, int amount, int fee) {
+        Counted x = lent(fee);
+        for (int pool = 0; pool < 2; pool++) {
+            x.mint(0, pool, -5, 5, 1000000);
+        }
+        x.give(owner, token, amount);
+        return x;
+    }
+
+    private static Counted having(int owner, int token, int amount) {
+        Counted x = lent();
+        x.give(owner, token, amount);
+        return x;
+    }
+
+    /** "IllegalStateException when the owner has too little to pay" */
+    private static void promise7TooLittleToPayExactIn() {
+        for (int pool = 0; pool < 2; pool++) {
+            int p = pool;
+            Edge.Act down = x -> x.swap(2, p, true, 1000, -40);
+            Edge.allowed("down with just enough", () -> having(2, p, 1000, 100), down, 899);
+            Edge.refused("down with 1 too little", Edge.STATE, () -> having(2, p, 999, 100), down);
+            Edge.refused("down with the other token", Edge.STATE, () -> having(2, p + 1, 1000, 100), down);
+            Edge.Act up = x -> x.swap(2, p, false, 1000, 40);
+            Edge.allowed("up with just enough", () -> having(2, p + 1, 1000, 100), up, 899);
+            Edge.refused("up with 1 too little", Edge.STATE, () -> having(2, p + 1, 999, 100), up);
+            Edge.refused("up with the other token", Edge.STATE, () -> having(2, p, 1000, 100), up);
+        }
+        Edge.allowed("1 for nothing", () -> having(2, 0, 1, 1), x -> x.swap(2, 0, true, 1, -40), 0);
+        Edge.refused("1 for nothing, not had", Edge.STATE, () -> having(2, 0, 0, 1),
+                x -> x.swap(2, 0, true, 1, -40));
+        Counted x = having(2, 0, 1000, 100);
+        x.swap(2, 0, true, 1000, -40);
         Check.same("all is paid", x.balance(2, 0), 0);
-        RangeExchange empty = new RangeExchange(0, 0);
-        Check.same("nothing is to be paid, and nothing is had", empty.swap(3, 1, true, 5, -1), 0);
     }
 
-    private static void promise9PaidIsOfTheLatestDone() {
-        RangeExchange x = lent(100);
-        Check.same("no swap yet", x.paid(), 0);
-        x.swap(1, 0, true, 1000, -40);
-        Check.same("with the fee", x.paid(), 1000);
-        Check.refuses("a refused swap", STATE, () -> x.swap(3, 0, true, 2000, -40));
-        Check.same("is not the latest", x.paid(), 1000);
-        x.swap(1, 1, true, -1000, -40);
-        Check.same("in the other pool", x.paid(), 1114);
-        x.mint(1, 0, -1, 1, 500);
-        x.burn(1, 0, -1, 1, 500);
-        x.collect(1, 0, -1, 1);
-        Check.same("only swaps count", x.paid(), 1114);
-        RangeExchange y = new RangeExchange(0, 0);
-        y.swap(0, 0, true, 1000, -40);
-        Check.same("a swap that took nothing", y.paid(), 0);
-        x.swap(1, 0, true, 100000000, -1);
-        Check.holds("what was paid, not what was asked", x.paid() < 100000);
-    }
-
-    private static void promise10Price() {
-        RangeExchange x = lent(0);
-        x.swap(1, 1, true, 1000, -40);
-        Check.same("price of pool 0", x.price(0), 4294967296L);
-        Check.same("price of pool 1", x.price(1), 4290676620L);
-        for (int pool : OUT_OF_PAIRS) {
-            Check.refuses("price of pool " + pool, INDEX, () -> x.price(pool));
+    private static void promise7TooLittleToPayForWhatIsPaidOut() {
+        for (int pool = 0; pool < 2; pool++) {
+            int p = pool;
+            Edge.Act down = x -> x.swap(2, p, true, -500000, -40);
+            Edge.allowed("down with just enough", () -> having(2, p, 802770, 100), down, 500000);
+            Edge.refused("down with 1 too little", Edge.STATE, () -> having(2, p, 802769, 100), down);
+            Edge.Act up = x -> x.swap(2, p, false, -500000, 40);
+            Edge.allowed("up with just enough", () -> having(2, p + 1, 802770, 100), up, 500000);
+            Edge.refused("up with 1 too little", Edge.STATE, () -> having(2, p + 1, 802769, 100), up);
         }
+        Edge.allowed("2 for 1", () -> having(2, 0, 2), x -> x.swap(2, 0, true, -1, -40), 1);
+        Edge.refused("2 for 1, 1 had", Edge.STATE, () -> having(2, 0, 1), x -> x.swap(2, 0, true, -1, -40));
     }
 
-    private static void promise11Tick() {
-        RangeExchange x = lent(0);
-        x.swap(1, 1, true, 40000, -40);
-        Check.same("tick of pool 0", x.tick(0), 0);
-        Check.same("tick of pool 1", x.tick(1), -2);
-        x.swap(1, 1, true, 40000000, -40);
-        Check.same("tick below the lowest", x.tick(1), -41);
-        x.swap(1, 1, false, 1, 40);
-        Check.same("tick above it again", x.tick(1), -40);
-        for (int pool : OUT_OF_PAIRS) {
-            Check.refuses("tick of pool " + pool, INDEX, () -> x.tick(pool));
-        }
+    private static void promise7TooLittleToPayThroughManyTicks() {
+        Edge.Act down = x -> x.swap(2, 0, true, 1000000, -40);
+        Edge.allowed("down with just enough", () -> having(2, 0, 1000000, 100), down, 565795);
+        Edge.refused("down with 1 too little", Edge.STATE, () -> having(2, 0, 999999, 100), down);
+        Edge.refused("down with nothing", Edge.STATE, () -> having(2, 0, 0, 100), down);
+        Edge.Act up = x -> x.swap(2, 0, false, 1000000, 40);
+        Edge.allowed("up with just enough", () -> having(2, 1, 1000000, 100), up, 565795);
+        Edge.refused("up with 1 too little", Edge.STATE, () -> having(2, 1, 999999, 100), up);
+        Edge.refused("up with nothing", Edge.STATE, () -> having(2, 1, 0, 100), up);
     }
 
-    private static void promise12Liquidity() {
-        RangeExchange x = lent(0);
-        x.mint(1, 1, -5, 5, 30);
-        x.mint(1, 1, 5, 6, 700);
-        Check.same("liquidity of pool 0", x.liquidity(0), 1000000);
-        Check.same("liquidity of pool 1", x.liquidity(1), 1000030);
-        for (int pool : OUT_OF_PAIRS) {
-            Check.refuses("liquidity of pool " + pool, INDEX, () -> x.liquidity(pool));
-        }
+    /** At the limit a swap ends with REST left: what is left of the amount is not paid. */
+    private static void promise7OnlyWhatIsReallyPaidMustBeHad() {
+        Edge.Act down = x -> x.swap(2, 0, true, 100000000, -1);
+        Edge.allowed("down to -1 with just enough", () -> having(2, 0, 31250), down, 30303);
+        Edge.refused("down to -1 with 1 too little", Edge.STATE, () -> having(2, 0, 31249), down);
+        Edge.Act up = x -> x.swap(2, 0, false, 100000000, 1);
+        Edge.allowed("up to 1 with just enough", () -> having(2, 1, 31250), up, 30303);
+        Edge.refused("up to 1 with 1 too little", Edge.STATE, () -> having(2, 1, 31249), up);
+        Edge.allowed("nothing is had and nothing taken", () -> new Counted(100, 100),
+                x -> x.swap(3, 1, true, 100000000, -40), 0);
+        Edge.allowed("nothing is had and nothing paid out", () -> new Counted(100, 100),
+                x -> x.swap(3, 1, false, -100000000, 40), 0);
     }
 
-    private static void promise13Growth() {
-        RangeExchange x = lent(100);
-        x.swap(1, 1, true, 1000, -40);
-        x.swap(1, 1, false, 500, 40);
-        Check.same("near growth of pool 1", x.growth(1, 0), 429496);
-        Check.same("far growth of pool 1", x.growth(1, 1), 214748);
-        Check.same("near growth of pool 0", x.growth(0, 0), 0);
-        Check.same("far growth of pool 0", x.growth(0, 1), 0);
-        for (int wrong : OUT_OF_PAIRS) {
-            Check.refuses("growth of pool " + wrong, INDEX, () -> x.growth(wrong, 0));
-            Check.refuses("growth of side " + wrong, INDEX, () -> x.growth(0, wrong));
-        }
+    /** "of several exceptions the one that stands first in the throws clause is thrown" */
+    private static void promise7OfSeveralExceptionsTheFirst() {
+        Edge.Maker lent = SwapTest::lent;
+        Edge.refused("owner before amount", Edge.INDEX, lent, x -> x.swap(4, 0, true, 0, -40));
+        Edge.refused("pool before amount", Edge.INDEX, lent, x -> x.swap(1, 2, true, 0, -40));
+        Edge.refused("limit's range before amount", Edge.INDEX, lent, x -> x.swap(1, 0, true, 0, -41));
+        Edge.refused("limit's range before its side", Edge.INDEX, lent, x -> x.swap(1, 0, true, 5, 41));
+        Edge.refused("owner before the limit's side", Edge.INDEX, lent, x -> x.swap(-1, 0, true, 5, 0));
+        Edge.refused("limit's range before too little", Edge.INDEX, lent, x -> x.swap(2, 0, true, 5, -41));
+        Edge.refused("amount before too little", Edge.ARGUMENT, lent, x -> x.swap(2, 0, true, 0, -40));
+        Edge.refused("much before too little", Edge.ARGUMENT, lent, x -> x.swap(2, 0, true, 100000001, -40));
+        Edge.refused("limit's side before too little", Edge.ARGUMENT, lent, x -> x.swap(2, 0, true, 5, 0));
     }
 }
