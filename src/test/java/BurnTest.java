@@ -4,6 +4,8 @@ public final class BurnTest {
         promise5OwesWhatItIsWorthRoundedDown();
         promise5OwesInsideATick();
         promise5ExactWorthIsNotRounded();
+        promise5BothQuotientsOfNearAreRoundedDown();
+        promise5SettlesBeforeTheAmountFalls();
         promise5OfNothingSettles();
         promise5TakesFromTheLiquidityInRangeOnly();
         promise5EndsAPositionThatIsOwedNothing();
@@ -42,6 +44,7 @@ public final class BurnTest {
         Check.same("burn is no swap", x.paid(), 0);
         x.burn(0, 1, -10, 10, 2000000);
         Check.same("near owed adds up", x.position(0, 1, -10, 10, 1), 264876 + 529752);
+        Check.same("far owed adds up", x.position(0, 1, -10, 10, 2), 264876 + 529752);
         Check.same("no amount is left", x.position(0, 1, -10, 10, 0), 0);
         x.mint(0, 0, 1, 5, 1000000);
         x.burn(0, 0, 1, 5, 1000000);
@@ -113,8 +116,34 @@ public final class BurnTest {
         Check.same("settled twice is owed once", x.position(0, 0, -10, 10, 1), 99);
         Check.same("burn of 0 out of range", x.burn(1, 0, 20, 30, 0), 1000000);
         Check.same("out of range nothing is owed", x.position(1, 0, 20, 30, 1), 0);
-        x.burn(0, 0, -10, 10, 1);
-        Check.same("burn of 1 settles too", x.burn(0, 0, -10, 10, 0), 999999);
+    }
+
+    /** Between ROOT(10) and ROOT(40) 6521648 are worth a little less than 2889639. */
+    private static void promise5BothQuotientsOfNearAreRoundedDown() {
+        Counted x = rich();
+        x.mint(0, 0, 10, 40, 6521648);
+        x.burn(0, 0, 10, 40, 6521648);
+        Check.same("near owed", x.position(0, 0, 10, 40, 1), 2889638);
+    }
+
+    /** The fee of 100 is owed to all of the 2^20 that were lent, not to what is left of them. */
+    private static void promise5SettlesBeforeTheAmountFalls() {
+        owedAfterABurn(0, 100, 0);
+        owedAfterABurn(1, 100, 0);
+        owedAfterABurn(1 << 19, 100 + 35092, 159272);
+        owedAfterABurn(1 << 20, 100 + 70185, 318544);
+    }
+
+    private static void owedAfterABurn(int l, long near, long far) {
+        Counted x = Counted.rich(100, 0, 25000000);
+        x.mint(0, 0, 20, 30, 1 << 20);
+        x.swap(1, 0, false, 25000000, 25);
+        x.burn(0, 0, 20, 30, 0);
+        x.collect(0, 0, 20, 30);
+        x.swap(1, 0, true, 1000, -40);
+        x.burn(0, 0, 20, 30, l);
+        Check.same("near owed when " + l + " are burnt", x.position(0, 0, 20, 30, 1), near);
+        Check.same("far owed when " + l + " are burnt", x.position(0, 0, 20, 30, 2), far);
     }
 
     private static void promise5TakesFromTheLiquidityInRangeOnly() {

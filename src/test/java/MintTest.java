@@ -5,6 +5,7 @@ public final class MintTest {
         promise4AfterThePriceMoved();
         promise4InsideATick();
         promise4ExactWorthIsNotRounded();
+        promise4BothQuotientsOfNearAreRoundedUp();
         promise4AddsToAPositionAndSettlesIt();
         promise4OwnerOutOfRange();
         promise4PoolOutOfRange();
@@ -99,6 +100,11 @@ public final class MintTest {
         y.swap(1, 0, false, 100, 40);
         Check.same("a price of 65 * 2^26", y.price(0), 4362076160L);
         costs(y, 0, 0, 1, 2145, 32, 34);
+    }
+
+    /** "both quotients up when the sum is up": were the first one rounded down, it would be 1222351. */
+    private static void promise4BothQuotientsOfNearAreRoundedUp() {
+        costs(rich(), 0, 3, 10, 6917887, 1222352, 0);
     }
 
     private static Counted atTick1() {

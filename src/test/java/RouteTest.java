@@ -13,6 +13,7 @@ public final class RouteTest {
         promise8PriceOfPool1IsTheLimit();
         promise8NothingIsGotInPool0();
         promise8LessThanLeast();
+        promise8RefusedAfterOthersWereDone();
         promise8OfSeveralExceptionsTheFirst();
         Check.finish("RouteTest");
     }
@@ -203,6 +204,26 @@ public final class RouteTest {
         Edge.allowed("0 is not less than 0", () -> lent(0, 0, 10000), x -> x.route(1, 2, 0), 0);
         Edge.refused("0 is less than 1", Edge.STATE, () -> lent(0, 0, 10000), x -> x.route(1, 2, 1));
         Edge.allowed("1 is not less than 1", () -> lent(0, 0, 10000), x -> x.route(1, 3, 1), 1);
+    }
+
+    private static void promise8RefusedAfterOthersWereDone() {
+        for (int count = 1; count <= 3; count++) {
+            int routes = count;
+            Edge.Maker done = () -> {
+                Counted x = lent();
+                x.mint(0, 0, -5, 5, 1000000);
+                x.mint(0, 1, -5, 5, 1000000);
+                for (int i = 0; i < routes; i++) {
+                    x.route(1, 2000, 0);
+                }
+                x.give(2, 0, 2000);
+                return x;
+            };
+            Edge.refused("1 too little", Edge.STATE, done, x -> x.route(2, 2001, 0));
+            Edge.refused("less than least", Edge.STATE, done, x -> x.route(2, 2000, 2000));
+            Edge.refused("through many ticks", Edge.STATE, done, x -> x.route(0, 900000, 900000));
+            Edge.refused("nothing got in pool 0", Edge.STATE, done, x -> x.route(2, 1, 0));
+        }
     }
 
     /** "of several exceptions the one that stands first in the throws clause is thrown" */

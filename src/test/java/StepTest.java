@@ -18,12 +18,15 @@ public final class StepTest {
         exactInReachesTheTargetWhenRIsNotLessThanNeeded();
         paidOutReachesTheTargetWhenRestIsNotLessThanHad();
         paidOutIsNotMoreThanRest();
+        bothQuotientsOfNearAreRounded();
+        theMostLiquidityAtTheHighestPrice();
         feeIsTheRestWhenTheTargetIsNotReached();
         feeIsRoundedUpWhenTheTargetIsReached();
         growthGrowsWhenLiquidityIsNot0();
         aTickIsSetWhenItsGrossIsNot0();
         crossingChangesTheLiquidityBothWays();
         crossingAtTheLimit();
+        crossingAsManyTicksAsCanBeSet();
         tickStaysWhenThePriceStays();
         tickIsTheGreatestWithRootNotAboveThePrice();
         Check.finish("StepTest");
@@ -224,6 +227,34 @@ public final class StepTest {
         swapped(crowdedBottom(), false, -12, 40, 12, 2, ROOT_OF_MINUS_40 + 11, -40, 400000000);
     }
 
+    /** "both quotients up when the sum is up", and both down when it is not. */
+    private static void bothQuotientsOfNearAreRounded() {
+        Counted taken = lent(0, 3, 10, 6917887);
+        taken.swap(1, 0, false, 100000000, 11);
+        swapped(taken, true, 100000000, 3, 1823590, 1222352, Model.root(3).longValueExact(), 2, 0);
+        swapped(lent(0, 10, 40, 6521648), false, 100000000, 40, 2889638, 13459895, ROOT_OF_40, 40, 0);
+    }
+
+    /** Twelve times 50000000 near ROOT(40): liquidity times price comes near 2^63. */
+    private static void theMostLiquidityAtTheHighestPrice() {
+        Counted x = new Counted(0, 0);
+        for (int owner = 0; owner < 4; owner++) {
+            x.give(owner, 0, 25000000);
+            for (int lo = 37; lo < 40; lo++) {
+                x.mint(owner, 0, lo, 40, 50000000);
+            }
+        }
+        x.give(1, 1, 97000000);
+        swapped(x, false, 97000000, 40, 9021250, 97000000, 14527706239L, 39, 600000000);
+        swapped(x, true, 1000000, -40, 11377135, 1000000, 14446265533L, 39, 600000000);
+        swapped(x, true, -10000000, -40, 10000000, 888313, 14374682744L, 39, 600000000);
+        swapped(x, false, 10000000, 40, 888312, 10000000, 14446265532L, 39, 600000000);
+        swapped(x, false, -500000, 40, 500000, 5672579, 14486871428L, 39, 600000000);
+        swapped(x, true, 1, -40, 11, 1, 14486871347L, 39, 600000000);
+        swapped(x, false, -1, 40, 1, 12, 14486871429L, 39, 600000000);
+        swapped(x, false, 1, 40, 0, 1, 14486871436L, 39, 600000000);
+    }
+
     /** "The step's fee is REST less what is taken in, when exact in and the new price is not TARGET" */
     private static void feeIsTheRestWhenTheTargetIsNotReached() {
         growsBy(lent(100, 0, 1, 3201), false, 110, 11 * (1L << 32) / 3201);
@@ -307,6 +338,26 @@ public final class StepTest {
         Check.same("up over -2 and 3", x.liquidity(0), 1000000);
         x.swap(1, 0, true, 20000000, 2);
         Check.same("down over 3", x.liquidity(0), 5000000);
+    }
+
+    /** Twelve positions set at most 24 ticks, and a swap from end to end has a step to each of them. */
+    private static void crossingAsManyTicksAsCanBeSet() {
+        Counted x = Counted.rich(100, 0, 25000000);
+        for (int i = 0; i < 12; i++) {
+            x.mint(i % 4, 0, -36 + 6 * i, -33 + 6 * i, 1000 * (i + 1));
+        }
+        swapped(x, false, 25000000, 40, 3140, 10780, ROOT_OF_40, 40, 0);
+        swapped(x, true, 25000000, -40, 10977, 7005, ROOT_OF_MINUS_40, -41, 0);
+        Check.same("near growth over 24 ticks", x.growth(0, 0), 679373024);
+        swapped(x, false, -25000000, 40, 6288, 12215, ROOT_OF_40, 40, 0);
+        Check.same("far growth over 24 ticks", x.growth(0, 1), 1083046026);
+        long[] near = {29, 49, 61, 68, 70, 70, 68, 65, 60, 56, 51, 46};
+        long[] far = {3, 8, 15, 24, 37, 53, 151, 207, 279, 373, 495, 649};
+        for (int i = 0; i < 12; i++) {
+            x.burn(i % 4, 0, -36 + 6 * i, -33 + 6 * i, 0);
+            Check.same("near owed", x.position(i % 4, 0, -36 + 6 * i, -33 + 6 * i, 1), near[i]);
+            Check.same("far owed", x.position(i % 4, 0, -36 + 6 * i, -33 + 6 * i, 2), far[i]);
+        }
     }
 
     private static void crossingAtTheLimit() {

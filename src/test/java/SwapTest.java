@@ -16,6 +16,7 @@ public final class SwapTest {
         promise7TooLittleToPayForWhatIsPaidOut();
         promise7TooLittleToPayThroughManyTicks();
         promise7OnlyWhatIsReallyPaidMustBeHad();
+        promise7TooLittleToPayAfterOthersWereDone();
         promise7OfSeveralExceptionsTheFirst();
         Check.finish("SwapTest");
     }
@@ -317,6 +318,27 @@ public final class SwapTest {
                 x -> x.swap(3, 1, true, 100000000, -40), 0);
         Edge.allowed("nothing is had and nothing paid out", () -> new Counted(100, 100),
                 x -> x.swap(3, 1, false, -100000000, 40), 0);
+    }
+
+    /** What a swap was tried on must not be mixed up with what it leaves when it is done. */
+    private static void promise7TooLittleToPayAfterOthersWereDone() {
+        for (int count = 1; count <= 3; count++) {
+            int swaps = count;
+            Edge.Maker done = () -> {
+                Counted x = having(2, 0, 999, 100);
+                for (int i = 0; i < swaps; i++) {
+                    x.swap(1, 0, i % 2 == 0, 300000, i % 2 == 0 ? -40 : 40);
+                }
+                return x;
+            };
+            Edge.refused("down with 1 too little", Edge.STATE, done, x -> x.swap(2, 0, true, 1000, -40));
+            Edge.refused("far down", Edge.STATE, done, x -> x.swap(2, 0, true, 1000000, -40));
+            Edge.refused("far up", Edge.STATE, done, x -> x.swap(2, 0, false, 1000000, 40));
+            Edge.refused("twice", Edge.STATE, done, x -> {
+                Check.refuses("the first of two", Edge.STATE, () -> x.swap(2, 0, false, 1000000, 40));
+                return x.swap(2, 0, true, 1000000, -40);
+            });
+        }
     }
 
     /** "of several exceptions the one that stands first in the throws clause is thrown" */

@@ -14,6 +14,7 @@ public final class TermsTest {
         settlingTwiceOwesOnce();
         aNewPositionIsOwedNothingOfBefore();
         aTickThatIsUnsetForgets();
+        aPositionWithoutAmountIsOwedNoMore();
         Check.finish("TermsTest");
     }
 
@@ -194,6 +195,19 @@ public final class TermsTest {
         owedOfAFeeOf100(POWER_OF_2 - 1, 409600, 99);
         owedOfAFeeOf100(POWER_OF_2, 409600, 100);
         owedOfAFeeOf100(POWER_OF_2 + 1, 409599, 99);
+        owedBeside(4940538, 9557, 89);
+        owedBeside(4940539, 9556, 88);
+    }
+
+    /** 9557 * 40000000 is a little more than 89 times 2^32, 9556 * 40000000 a little less. */
+    private static void owedBeside(int others, long growth, long due) {
+        Counted x = Counted.rich(100, 0, 25000000);
+        x.mint(0, 0, -1, 1, 40000000);
+        x.mint(3, 0, -1, 1, others);
+        x.swap(1, 0, true, 1000, -40);
+        Check.same("growth beside " + others, x.growth(0, 0), growth);
+        x.burn(0, 0, -1, 1, 0);
+        Check.same("owed beside " + others, x.position(0, 0, -1, 1, 1), due);
     }
 
     private static void owedOfAFeeOf100(int l, long growth, long due) {
@@ -253,6 +267,22 @@ public final class TermsTest {
             x.mint(0, 0, lo, 40, POWER_OF_2);
             owes(x, lo, 40, 0, 0);
         }
+    }
+
+    /** Its amount is 0 while growth grows, and a mint settles it before its amount grows. */
+    private static void aPositionWithoutAmountIsOwedNoMore() {
+        Counted x = Counted.rich(100, 0, 25000000);
+        x.mint(3, 0, -40, 40, POWER_OF_2);
+        x.mint(0, 0, 1, 2, 1000);
+        x.burn(0, 0, 1, 2, 1000);
+        x.swap(1, 0, false, 50000, 40);
+        Check.same("the price is between its ticks", x.tick(0), 1);
+        owes(x, 1, 2, 29, 0);
+        x.swap(1, 0, false, 1000, 40);
+        x.mint(0, 0, 1, 2, POWER_OF_2);
+        owes(x, 1, 2, 29, 0);
+        x.swap(1, 0, false, 2000, 40);
+        owes(x, 1, 2, 29, 100);
     }
 
     /** "A tick whose gross is 0 now has outsides and net 0." */
