@@ -8,12 +8,19 @@ import java.util.TreeSet;
 
 /** The public face is the document's and no other, as LANGUAGE.md's rules 1 and 5 ask. */
 public final class FaceTest {
+    private static final String INDEX = " throws IndexOutOfBoundsException";
+    private static final String ARGUMENT = " IllegalArgumentException";
+    private static final String NONE = " NoSuchElementException";
+    private static final String STATE = " IllegalStateException";
     private static final String[] FACE = {
-        "long give(int,int,int)", "long balance(int,int)", "int mint(int,int,int,int,int)",
-        "int burn(int,int,int,int,int)", "long collect(int,int,int,int)",
-        "long swap(int,int,boolean,int,int)", "long route(int,int,int)", "long paid()",
-        "long price(int)", "int tick(int)", "int liquidity(int)", "long growth(int,int)",
-        "long position(int,int,int,int,int)", "long held(int)"};
+        "long give(int,int,int)" + INDEX + ARGUMENT, "long balance(int,int)" + INDEX,
+        "int mint(int,int,int,int,int)" + INDEX + ARGUMENT + STATE,
+        "int burn(int,int,int,int,int)" + INDEX + ARGUMENT + NONE + STATE,
+        "long collect(int,int,int,int)" + INDEX + NONE,
+        "long swap(int,int,boolean,int,int)" + INDEX + ARGUMENT + STATE,
+        "long route(int,int,int)" + INDEX + ARGUMENT + STATE, "long paid()",
+        "long price(int)" + INDEX, "int tick(int)" + INDEX, "int liquidity(int)" + INDEX,
+        "long growth(int,int)" + INDEX, "long position(int,int,int,int,int)", "long held(int)" + INDEX};
 
     public static void main(String[] args) {
         Class<RangeExchange> face = RangeExchange.class;
@@ -55,7 +62,12 @@ public final class FaceTest {
         for (int i = 0; i < types.length; i++) {
             s.append(i == 0 ? "" : ",").append(types[i].getName());
         }
-        return s.append(')').toString();
+        s.append(')');
+        Class<?>[] thrown = m.getExceptionTypes();
+        for (int i = 0; i < thrown.length; i++) {
+            s.append(i == 0 ? " throws " : " ").append(thrown[i].getSimpleName());
+        }
+        return s.toString();
     }
 
     private static void fieldsArePrivate(Class<?> c) {
