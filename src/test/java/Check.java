@@ -4,10 +4,28 @@ final class Check {
         long answer();
     }
 
+    private static final long MOST_MILLISECONDS = 600000;
     private static int checks = 0;
     private static int wrong = 0;
 
+    // A call that never ends must fail the test, not hold it up.
+    static {
+        Thread watch = new Thread(Check::endWhenTooLong);
+        watch.setDaemon(true);
+        watch.start();
+    }
+
     private Check() {
+    }
+
+    private static void endWhenTooLong() {
+        try {
+            Thread.sleep(MOST_MILLISECONDS);
+        } catch (InterruptedException e) {
+            return;
+        }
+        System.out.println("the test takes too long: perhaps a call does not end");
+        Runtime.getRuntime().halt(1);
     }
 
     static void same(String what, long got, long due) {
